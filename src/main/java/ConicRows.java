@@ -2,7 +2,7 @@
  * Points, lines and conics by whole numbers, also such as lie at infinity.
  *
  * <p>Every call works on the few rows that the constructor makes, so that a call makes no object.
- * All numbers between are below 2^60 in size: where that is not plain, a comment says why.
+ * No number on the way reaches 2^62 in size: where that is not plain, a comment says why.
  */
 public final class ConicRows {
     public static final int NONE = -1000001, UNKNOWN = -1000002, OUTSIDE = -1000003, STATE = -1000004, ROOM = -1000005, LARGE = -1000006;
@@ -412,7 +412,7 @@ public final class ConicRows {
         return apart > 0 ? 5 : 8;
     }
 
-    /** How much DET grows with one more of the other: its minors, each so often as that one's number. */
+    /** The number of cubic() in which the one stands twice: DET grows by its minors times the other. */
     private long mixedDet(Form twice, Form once) {
         minors.setMinors(twice);
         return minors.a * once.a + minors.b * once.b + minors.c * once.c
@@ -442,9 +442,9 @@ public final class ConicRows {
     }
 
     /**
-     * Of a form with DET 0 that is not 0: 1, 2, 4 or 0, as split() answers. With l, m its LINES, its
-     * minors are those of -(l x m) twice; l x m, as a turn, added to the form leaves m times l alone,
-     * taken away l times m.
+     * Of a form with DET 0 that is not 0: 1, 2, 4 or 0, as split() answers. If l and m are its LINES,
+     * its minors are the products of two numbers each of the turn l x m, times -1; and with the turn
+     * added to the form's rows they are all so many times the one LINE, with it taken away the other.
      */
     private int fallApart(Form q, Pair found) {
         found.clear();
@@ -631,7 +631,7 @@ public final class ConicRows {
                 m.d * p.x + m.e * p.y + m.f * p.z);
         }
 
-        /** The minors are less than 0 by the products of the turn's numbers, so one row tells all three. */
+        /** A row of minors is one number of the turn, whose size is the root, times all three and -1. */
         void setTurn(Form m, long root) {
             if (root == 0) {
                 set(0, 0, 0);
@@ -644,7 +644,7 @@ public final class ConicRows {
             }
         }
 
-        /** All rows of the form with the turn stand for one LINE: the first that is not 0 does. */
+        /** All rows stand for the same LINE, but some may be 0: the first that is not tells it. */
         void setRow(Form q, Triple turn) {
             set(2 * q.a, q.b - turn.z, q.d + turn.y);
             if (isZero()) {
