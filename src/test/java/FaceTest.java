@@ -31,6 +31,9 @@ public final class FaceTest {
         dueNothingElseVisible();
         dueNames();
         dueText();
+        dueSmallClasses();
+        dueShortMethods();
+        dueNothingMadeByCalls();
         System.out.println(wrong == 0 ? "the face is as due" : wrong + " things are not as due");
         if (wrong != 0) {
             System.exit(1);
@@ -78,7 +81,6 @@ public final class FaceTest {
     private static void dueNothingElseVisible() {
         for (Method m : ConicRows.class.getDeclaredMethods()) {
             due(m.getName() + " is hidden or of the face", m.isSynthetic() || isHidden(m.getModifiers(), true), true);
-            due(m.getName() + " has at most 7 parameters", m.getParameterCount() <= 7, true);
         }
         for (Field f : ConicRows.class.getDeclaredFields()) {
             due(f.getName() + " is hidden or of the face", f.isSynthetic() || isHidden(f.getModifiers(), true), true);
@@ -97,9 +99,7 @@ public final class FaceTest {
         for (String method : METHODS) {
             names.add(method.substring(method.indexOf(' ') + 1, method.indexOf('(')));
         }
-        List<Class<?>> classes = new ArrayList<>(Arrays.asList(ConicRows.class.getDeclaredClasses()));
-        classes.add(ConicRows.class);
-        for (Class<?> c : classes) {
+        for (Class<?> c : allClasses()) {
             for (Method m : c.getDeclaredMethods()) {
                 boolean ofTheFace = c == ConicRows.class && Modifier.isPublic(m.getModifiers());
                 due(c.getName() + "." + m.getName() + " bears a public name", !ofTheFace && names.contains(m.getName()), false);
@@ -107,12 +107,73 @@ public final class FaceTest {
         }
     }
 
-    private static void dueText() throws IOException {
+    private static String codeWithoutComments() throws IOException {
         String text = Files.readString(Path.of("src/main/java/ConicRows.java"));
-        String code = text.replaceAll("(?s)/\\*.*?\\*/", " ").replaceAll("//[^\n]*", " ");
-        Matcher found = Pattern.compile(FORBIDDEN).matcher(code);
+        return text.replaceAll("(?s)/\\*.*?\\*/", " ").replaceAll("//[^\n]*", " ");
+    }
+
+    private static void dueText() throws IOException {
+        Matcher found = Pattern.compile(FORBIDDEN).matcher(codeWithoutComments());
         while (found.find()) {
             due("in the text", found.group(), "nothing of that sort");
+        }
+    }
+
+    private static List<Class<?>> allClasses() {
+        List<Class<?>> classes = new ArrayList<>(Arrays.asList(ConicRows.class.getDeclaredClasses()));
+        classes.add(ConicRows.class);
+        return classes;
+    }
+
+    private static void dueSmallClasses() {
+        for (Class<?> c : allClasses()) {
+            int fields = 0;
+            for (Field f : c.getDeclaredFields()) {
+                fields += Modifier.isStatic(f.getModifiers()) ? 0 : 1;
+            }
+            due(c.getName() + " has at most 20 fields", fields <= 20, true);
+            for (Method m : c.getDeclaredMethods()) {
+                due(c.getName() + "." + m.getName() + " has at most 7 parameters", m.getParameterCount() <= 7, true);
+            }
+        }
+    }
+
+    private static void dueShortMethods() throws IOException {
+        Matcher methods = methodsOf(codeWithoutComments());
+        int seen = 0;
+        while (methods.find()) {
+            seen++;
+            long lines = methods.group().lines().count();
+            due(methods.group(2) + " has at most 60 lines", lines <= 60, true);
+        }
+        // The search must have found every method, or it has looked at nothing.
+        due("methods and constructors that were found", seen, countedMethods());
+    }
+
+    private static int countedMethods() {
+        int counted = 1;
+        for (Class<?> c : allClasses()) {
+            for (Method m : c.getDeclaredMethods()) {
+                counted += m.isSynthetic() ? 0 : 1;
+            }
+        }
+        // ConicRows has a constructor that is written out, as have Shelf and Pair.
+        return counted + 2;
+    }
+
+    /** Each method or constructor, from its first line to the bracket that stands as far in as that. */
+    private static Matcher methodsOf(String code) {
+        return Pattern.compile("(?ms)^( {4}| {8})(?! |else|if|for|while|switch|private static final class)"
+            + "([\\w\\[\\] ]+\\([^)]*\\)) \\{$.*?^\\1\\}$").matcher(code);
+    }
+
+    /** All calls of a run share one room: the constructors make the rows, calls only use them. */
+    private static void dueNothingMadeByCalls() throws IOException {
+        Matcher methods = methodsOf(codeWithoutComments());
+        while (methods.find()) {
+            boolean constructor = !methods.group(2).replace("public ", "").replaceAll("\\(.*", "").contains(" ");
+            boolean makes = Pattern.compile("\\bnew\\b").matcher(methods.group()).find();
+            due(methods.group(2) + " makes an object", makes && !constructor, false);
         }
     }
 }

@@ -41,6 +41,7 @@ public final class PromisesTest {
         unknownComesFirst();
         largeComesBeforeRoom();
         roomOfDerived();
+        exampleOfReadme();
         System.out.println(wrong == 0 ? "all answers are as due" : wrong + " answers are not as due");
         if (wrong != 0) {
             System.exit(1);
@@ -799,5 +800,25 @@ public final class PromisesTest {
         due("five", y.five(0, 1, 2, 3, 4), ROOM);
         dueNumbers("first still", y, 2, 0, 1, 0, 1, 0, 0, -1);
         dueNumbers("last", y, 2, 59, 1, 0, 1, 0, 0, -1);
+    }
+
+    private static void exampleOfReadme() {
+        ConicRows rows = new ConicRows();
+        int circle = rows.conic(1, 0, 1, 0, 0, -25);
+        int line = rows.line(1, 0, -3);
+        due("README: the circle", circle, 0);
+        due("README: the line", line, 0);
+        due("README: kind", rows.kind(circle), 0);
+        due("README: round", rows.round(circle), 1);
+        due("README: cross", rows.cross(circle, line), 2);
+        due("README: the first crossing", rows.crossing(0, 1), -4);
+        due("README: the second crossing", rows.crossing(1, 1), 4);
+        int pole = rows.pole(circle, line);
+        due("README: the pole", pole, 0);
+        dueNumbers("README: the pole", rows, 0, pole, 25, 0, 3);
+        int polar = rows.polar(circle, pole);
+        due("README: the polar", polar, 1);
+        dueNumbers("README: the polar", rows, 1, polar, 1, 0, -3);
+        due("README: split", rows.split(circle), STATE);
     }
 }
